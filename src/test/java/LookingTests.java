@@ -70,6 +70,9 @@ final class LookingTests {
         ring.addEntry(8, 0, 1);
         ring.scan(1);
         Check.due("without a reference", ring.channel(0, 6), Rings.NONE);
+        ScanRing other = Rings.withPlaces(0, 9);
+        other.scan(1);
+        Check.due("without a ground", other.channel(0, 6), Rings.NONE);
         ring.addEntry(9, 0, 2);
         ring.scan(1);
         // y 1010, a 10, b 2058.

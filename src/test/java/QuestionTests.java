@@ -12,7 +12,9 @@ final class QuestionTests {
         settleFor();
         settleForRefuses();
         bestRule();
-        bestRuleOfSeveral();
+        bestRuleByPlaces();
+        bestRuleByResistances();
+        bestRuleByValues();
         groundsNeeded();
         groundsTakeSlots();
         questionsChangeNothing();
@@ -102,6 +104,10 @@ final class QuestionTests {
         ring.setSource(1, 0, 1000, 0, 0);
         Check.due("a carry without an error", ring.why(1), 0);
         Check.due("its carry", ring.would(1, 1), 750);
+        // 1 and 1000: 250.75 of which 250 would be there without the 1.
+        ring.setSource(0, 0, 1, 0, 0);
+        Check.due("the least carry", ring.would(1, 1), 1);
+        Check.due("why with the least carry", ring.why(1), 1);
     }
 
     private static void whyByGainAndOffset() {
@@ -168,64 +174,50 @@ final class QuestionTests {
     /** Promise 27. */
     private static void bestRule() {
         ScanRing ring = ringWithCarry();
-        // Now a carry of 750; the other way round, with no charge held, none.
-        Check.due("the opposite order", ring.bestRule(), 3);
+        // As it is, and by each of the rules 0 to 2, a carry of 750; the other way round none.
+        Check.due("the opposite order alone", ring.bestRule(), 3);
         ring.order(3);
         Check.due("the present order", ring.bestRule(), -1);
         Check.due("an empty list", new ScanRing().bestRule(), -1);
-        ScanRing places = new ScanRing();
-        places.setSource(1, 0, 1000, 0, 0);
-        places.setResistance(0, 9);
-        Rings.addPlaces(places, 1, 0);
-        Check.due("by places", places.bestRule(), 0);
-        ScanRing resistances = new ScanRing();
-        resistances.setSource(2, 0, 1000, 0, 0);
-        resistances.setSource(3, 0, 999, 0, 0);
-        resistances.setResistance(0, 9);
-        resistances.setResistance(1, 8);
-        Rings.addPlaces(resistances, 1, 2, 0, 8);
-        // By places nothing is carried from 1 to 2; as it is, from 2 to 0.
-        Check.due("by places again", resistances.bestRule(), 0);
+        Check.due("all as good as each other", Rings.withPlaces(2, 1, 0).bestRule(), -1);
     }
 
-    private static void bestRuleOfSeveral() {
+    private static void bestRuleByPlaces() {
+        ScanRing ring = new ScanRing();
+        ring.setSource(1, 0, 1000, 0, 0);
+        ring.setResistance(0, 9);
+        Rings.addPlaces(ring, 1, 0);
+        // As it is, and by resistances, a carry of 900; none by the rules 0, 2 and 3.
+        Check.due("of several the smallest", ring.bestRule(), 0);
+    }
+
+    private static void bestRuleByResistances() {
+        ScanRing ring = Rings.withPlaces(9);
+        ring.scan(1);
+        ring.removeEntry(0);
+        ring.setResistance(0, 9);
+        ring.setSource(2, 0, 1, 0, 0);
+        Rings.addPlaces(ring, 0, 2);
+        // As it is, by places and by values a carry of 1843 of the 2048 that are held; 1 by the rules 1 and 3.
+        Check.due("the least of some that are not 0", ring.bestRule(), 1);
+    }
+
+    private static void bestRuleByValues() {
         ScanRing ring = new ScanRing();
         ring.setSource(0, 0, 3000, 0, 0);
-        ring.setSource(1, 0, 1000, 0, 0);
+        ring.setSource(1, 2, 1000, 4095, 20);
         ring.setResistance(1, 1);
         ring.setResistance(2, 1);
         Rings.addPlaces(ring, 0, 2, 1);
-        // Sums: now 0 2 1 1500 + 375; by places 0 1 2 1500 + 1000; by resistances as it is now;
-        // by values 2 1 0 none; the opposite 1 2 0 250.
+        // As it is, and by resistances: 0 2 1, 1500 + 750. By places: 0 1 2, 1500 + 1000.
+        // By values: 2 1 0, none. The opposite: 1 2 0, 250.
         Check.due("by values", ring.bestRule(), 2);
         ring.order(2);
         Check.due("nothing better", ring.bestRule(), -1);
-        ring.setSource(3, 0, 4000, 0, 0);
-        ring.setResistance(3, 31);
-        ScanRing held = new ScanRing();
-        held.setResistance(4, 4);
-        Rings.addPlaces(held, 9, 4, 8);
-        held.scan(1);
-        // Opposite and by values (8 and 4 at 0, 9 at 2048) are as good as each other; by values 4 8 9.
-        Check.due("of several the smallest", held.bestRule(), 0 + bestOf(held));
-    }
-
-    /** The rule that answers best when each is tried for itself. */
-    private static int bestOf(ScanRing ring) {
-        int best = -1;
-        int least = ring.scan(1);
-        ring.undo();
-        for (int rule = 0; rule < 4; rule++) {
-            ring.order(rule);
-            int carries = ring.scan(1);
-            ring.undo();
-            ring.undo();
-            if (carries < least) {
-                best = rule;
-                least = carries;
-            }
-        }
-        return best;
+        ring.order(3);
+        ring.pass(10);
+        // By the values of this time: 2 0 1, 1500. By places and as it is: 0 1 2. The opposite: 2 1 0, none.
+        Check.due("at another time", ring.bestRule(), 3);
     }
 
     /** Promise 28. */
@@ -268,6 +260,14 @@ final class QuestionTests {
         Check.due("the ground's slot counts", ring.groundsNeeded(), 2);
         ring.setSource(1, 2, 4000, 0, 4);
         Check.due("the other way round", ring.groundsNeeded(), 1);
+        ring.setSource(1, 2, 4000, 0, 2);
+        Check.due("no slot more than that", ring.groundsNeeded(), 2);
+        ring.settleFor(2, 0);
+        ring.would(2, 0);
+        Check.due("whatever was asked ahead", ring.groundsNeeded(), 2);
+        ring.bestRule();
+        ring.removeEntry(0);
+        Check.due("nothing is held now", ring.groundsNeeded(), 1);
     }
 
     private static void questionsChangeNothing() {

@@ -50,6 +50,8 @@ final class ScanTests {
         due(ring, 1, 9, 4, 2048, 0, 0);
         due(ring, 0, 1, 5, 2036, 1536, 36);
         Check.dueInOrder("accounts", ring::account, 4, 1, 1, 0, 6, 2286, 6);
+        Check.due("another scan answers its own carries alone", ring.scan(1), 2286);
+        Check.due("the account has both", ring.account(5), 4572);
     }
 
     private static void due(ScanRing ring, int back, int... parts) {
