@@ -1,6 +1,7 @@
 import java.io.IOException;
+import java.nio.file.Path;
 
-/** Runs every test of the project; its argument is the path of ScanRing.java. */
+/** Runs every test of the project; its arguments are the paths of ScanRing.java and of DOC.md. */
 public final class AllTests {
     private AllTests() {
     }
@@ -12,6 +13,15 @@ public final class AllTests {
         TextTests.run();
         LookingTests.run();
         QuestionTests.run();
+        TermBounds.run();
+        ListBounds.run();
+        UndoBounds.run();
+        SetupBounds.run();
+        ScanBounds.run();
+        TextBounds.run();
+        LookingBounds.run();
+        QuestionBounds.run();
+        Sentences.areOfTheDocument(Path.of(arguments[1]));
         ModelTests.run();
         System.out.println(Check.summary());
         if (Check.failures() != 0) {

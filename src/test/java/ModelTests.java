@@ -182,7 +182,12 @@ final class ModelTests {
             text.append(item());
         }
         spoil(text);
-        for (int index = 0; index < text.length() && calls < CALLS; index++) {
+        if (calls + text.length() + 3 > CALLS) {
+            // What calls behind the 512th answer is free: the run ends ahead of a text that needs them.
+            calls = CALLS;
+            return;
+        }
+        for (int index = 0; index < text.length(); index++) {
             char character = text.charAt(index);
             due("append(" + (int) character + ")", ring.append(character), model.append(character));
         }
@@ -271,6 +276,9 @@ final class ModelTests {
     private void lookAtAccount() {
         int what = dice.around(0, 6);
         due("account(" + what + ")", ring.account(what), model.account(what));
+        if (calls == CALLS) {
+            return;
+        }
         int part = dice.around(0, 2);
         due("held(" + part + ")", ring.held(part), model.held(part));
     }

@@ -1,12 +1,70 @@
+import java.util.function.Supplier;
+
 /** Rings and texts that several tests begin with. */
 final class Rings {
     static final int INVALID = -10000001;
     static final int ILLEGAL = -10000002;
     static final int FULL = -10000003;
     static final int NONE = -10000009;
+    static final int TEXT_ERROR = -20000000;
     static final int[] OUTSIDE = {Integer.MIN_VALUE, -1000000, -101, -1, Integer.MAX_VALUE, 1000000};
 
+
+    /** Named once, so that Twins knows them again. */
+    static final Supplier<ScanRing> NEW = ScanRing::new;
+    static final Supplier<ScanRing> RICH = Rings::rich;
+    static final Supplier<ScanRing> YOUNG = Rings::young;
+    static final Supplier<ScanRing> FULL_TO_THE_BRIM = Rings::full;
+
     private Rings() {
+    }
+
+    /** Five entries, nothing as it is in a new ring, the log and the history full, a text of two items. */
+    private static ScanRing rich() {
+        ScanRing ring = new ScanRing();
+        ring.setSource(0, 0, 1000, 0, 0);
+        ring.setSource(1, 1, 500, -20, 0);
+        ring.setSource(2, 2, 3000, 100, 7);
+        ring.setResistance(1, 3);
+        ring.setResistance(2, 5);
+        ring.set(0, 2000);
+        ring.set(1, 990);
+        ring.set(2, 5);
+        addPlaces(ring, 0, 1, 8, 9, 2);
+        ring.take(0);
+        ring.setSettle(1, 2);
+        ring.take(1);
+        ring.scan(8);
+        ring.pass(10);
+        ring.removeEntry(4);
+        ring.set(2, -3);
+        ring.setResistance(3, 9);
+        ring.addEntry(2, 1, 1);
+        type(ring, "3=7;g:1;");
+        return ring;
+    }
+
+    /** A rich ring whose history has room for two more states. */
+    private static ScanRing young() {
+        ScanRing ring = rich();
+        ring.undo();
+        ring.undo();
+        return ring;
+    }
+
+    /** 16 entries at the time 9999, with a full log, a full history and a text of 140 characters. */
+    private static ScanRing full() {
+        ScanRing ring = new ScanRing();
+        ring.setSource(3, 1, 4095, -1, 0);
+        ring.setResistance(3, 2);
+        addPlaces(ring, 0, 1, 2, 3, 4, 5, 6, 7, 8, 9, 0, 1, 2, 3, 4, 5);
+        ring.take(0);
+        ring.scan(3);
+        ring.setSettle(15, 7);
+        ring.take(1);
+        passTo(ring, 9999);
+        type(ring, "0r1;".repeat(35));
+        return ring;
     }
 
     /** A ring whose list has these places, without settle slots. */

@@ -197,12 +197,11 @@ final class TextTests {
     }
 
     private static void fullText() {
-        ScanRing ring = new ScanRing();
         String items = "7=4095,4095/200;".repeat(8) + "0=4095+64; ";
-        Check.due("139 characters", Rings.load(ring, items), 9);
-        Check.due("140 characters", Rings.load(ring, items + " "), 9);
-        Check.due("140 characters that want one more", Rings.load(ring, "0=1;".repeat(34) + "0r31"), ERROR - 140);
-        Check.due("35 items", Rings.load(ring, "0r1;".repeat(35)), 35);
-        Check.due("a number of 138 digits", Rings.load(ring, "0=" + "9".repeat(138)), ERROR - 2);
+        Check.due("139 characters", Rings.load(new ScanRing(), items), 9);
+        Check.due("140 characters", Rings.load(new ScanRing(), items + " "), 9);
+        Check.due("140 characters that want one more", Rings.load(new ScanRing(), "0=1;".repeat(34) + "0r31"), ERROR - 140);
+        Check.due("35 items", Rings.load(new ScanRing(), "0r1;".repeat(35)), 35);
+        Check.due("a number of 138 digits", Rings.load(new ScanRing(), "0=" + "9".repeat(138)), ERROR - 2);
     }
 }
