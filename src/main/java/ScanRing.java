@@ -18,7 +18,6 @@ public final class ScanRing {
     private static final int CONSTANT = 0;
     private static final int RISING = 1;
     private static final int JUMPING = 2;
-    private static final int KINDS = 3;
 
     private static final int TOP_LEVEL = 4095;
     private static final int STEEPEST = 64;

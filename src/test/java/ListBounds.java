@@ -26,7 +26,8 @@ final class ListBounds {
             Check.due("the 17th", ring.addEntry(1, 0, 16), Rings.FULL);
             Check.due("the 17th by a text", Rings.load(ring, "1:0;"), Rings.TEXT_ERROR - 1);
         });
-        Sentences.holds(part, "0 to 7 for a channel, 8 for the ground, 9 for the reference, and settle slots, 0 to 7", () -> {
+        Sentences.holds(part, "An entry has a place, 0 to 7 for a channel, 8 for the ground, 9 for the reference, "
+                + "and settle slots, 0 to 7.", () -> {
             for (int place = -1; place <= 10; place++) {
                 boolean there = place >= 0 && place <= 9;
                 Check.due("place " + place, new ScanRing().addEntry(place, 0, 0), there ? 1 : Rings.INVALID);
@@ -41,7 +42,7 @@ final class ListBounds {
             Check.dueInOrder("reading of", back -> ring.sample(back, 2), 2048, 0, 100);
             Check.dueInOrder("slots on", ring::account, 1, 1, 1);
         });
-        Sentences.holds(part, "there are (settle slots) + 1 slots on its place", () -> {
+        Sentences.holds(part, "there are (settle slots) + 1 slots on its place, one after the other", () -> {
             for (int settle = 0; settle <= 7; settle++) {
                 int slots = settle + 1;
                 ScanRing ring = rising();
@@ -89,7 +90,8 @@ final class ListBounds {
 
     private static void carries() {
         String part = "Scan list";
-        Sentences.holds(part, "the reading that it would have if h was 0.0f ahead of its first slot, everything else as it is", () -> {
+        Sentences.holds(part, "The carry of an entry is its reading less the reading that it would have if h was 0.0f "
+                + "ahead of its first slot, everything else as it is.", () -> {
             // 0.75 of what is held: .5 of a unit is 0.375, 1 is 0.75; the 250 are there without it.
             Check.due("nothing held", carried(0, 0, 3, 0), 0);
             Check.due("too little held", carried(1, 1, 3, 0), 0);
@@ -132,7 +134,8 @@ final class ListBounds {
             Check.due("error of the ground at 0", ring.sample(1, 4), 0);
             Check.due("error of the reference 0", ring.sample(0, 4), 0);
         });
-        Sentences.holds(part, "its reading less the value of its place at the time of its last slot", () -> {
+        Sentences.holds(part, "The error of an entry is its reading less the value of its place "
+                + "at the time of its last slot;", () -> {
             ScanRing ring = rising();
             ring.setSettle(0, 7);
             ring.scan(1);
@@ -316,7 +319,8 @@ final class ListBounds {
 
     private static void accounts() {
         String part = "Accounts";
-        Sentences.holds(part, "0 the slots on channels, 1 on the ground, 2 on the reference, 3 the slots that passed otherwise", () -> {
+        Sentences.holds(part, "0 the slots on channels, 1 on the ground, 2 on the reference, "
+                + "3 the slots that passed otherwise", () -> {
             int[] places = {0, 7, 8, 9};
             int[] accounts = {0, 0, 1, 2};
             for (int index = 0; index < places.length; index++) {
@@ -347,7 +351,8 @@ final class ListBounds {
             int[] times = {0, 3, 1003, 1063, 1064};
             for (int step = 0; step < times.length; step++) {
                 Check.due("time", ring.count(0), times[step]);
-                Check.due("accounts together", ring.account(0) + ring.account(1) + ring.account(2) + ring.account(3), times[step]);
+                int together = ring.account(0) + ring.account(1) + ring.account(2) + ring.account(3);
+                Check.due("accounts together", together, times[step]);
                 Check.due("account 6", ring.account(6), times[step]);
                 switch (step) {
                     case 0: ring.scan(1); break;
@@ -376,7 +381,8 @@ final class ListBounds {
             Check.due("a third", ring.take(2), Rings.INVALID);
             Check.due("taken then", ring.count(6), 2);
         });
-        Sentences.holds(part, "A snapshot keeps the sources, the resistances, the scan list, the reference level, gain and offset.", () -> {
+        Sentences.holds(part, "A snapshot keeps the sources, the resistances, the scan list, "
+                + "the reference level, gain and offset.", () -> {
             ScanRing ring = filled(0);
             ring.take(0);
             refill(ring, 1);
@@ -437,7 +443,8 @@ final class ListBounds {
     private static void refill(ScanRing ring, int kind) {
         for (int channel = 0; channel < 8; channel++) {
             int source = (channel + kind) % 3;
-            ring.setSource(channel, source, kind * 4095 + channel - 2 * kind * channel, source == 0 ? 0 : 5, source == 2 ? 2 + 198 * kind : 0);
+            int level = kind == 0 ? channel : 4095 - channel;
+            ring.setSource(channel, source, level, source == 0 ? 0 : 5, source == 2 ? 2 + 198 * kind : 0);
             ring.setResistance(channel, kind * 24 + channel);
         }
         ring.set(0, 4095 * kind);

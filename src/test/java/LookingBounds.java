@@ -108,6 +108,14 @@ final class LookingBounds {
                 }
             }
         });
+        Sentences.holds(promise, "`what`: 0 the kind of its source, 1 the level, 2 the second argument of setSource()", () -> {
+            Twins.dueWithin(0, 7, "channel with what", Rings.RICH, (ring, what) -> ring.channel(0, what));
+            ScanRing ring = new ScanRing();
+            ring.setSource(7, 1, 4095, -64, 0);
+            Check.dueInOrder("channel(7, what)", what -> ring.channel(7, what), 1, 4095, -64);
+            ring.setSource(7, 2, 0, 4095, 2);
+            Check.dueInOrder("channel(7, what)", what -> ring.channel(7, what), 2, 0, 4095);
+        });
         Sentences.holds(promise, "3 the period (0 for the others)", () -> {
             ScanRing ring = new ScanRing();
             ring.setSource(0, 2, 1, 2, 2);
@@ -117,6 +125,15 @@ final class LookingBounds {
             ring.setSource(3, 0, 1, 0, 0);
             Check.dueInOrder("period of", channel -> ring.channel(channel, 3), 2, 200, 0, 0, 0);
             Check.dueInOrder("second of", channel -> ring.channel(channel, 2), 2, 2, 2, 0, 0);
+        });
+        Sentences.holds(promise, "4 the resistance, 5 the latest reading, 6 the corrected reading", () -> {
+            ScanRing ring = Rings.withPlaces(7, 8, 9);
+            ring.setSource(7, 0, 4095, 0, 0);
+            ring.setResistance(7, 31);
+            ring.set(2, 1);
+            ring.scan(1);
+            // 127.96.. and the offset: 129, of which the ground's 1 is corrected.
+            Check.dueInOrder("channel(7, 4 + what)", what -> ring.channel(7, 4 + what), 31, 129, 128);
         });
         Sentences.holds(promise, "7 the number of entries with it as their place", () -> {
             Check.due("of an empty list", new ScanRing().channel(7, 7), 0);
@@ -128,7 +145,7 @@ final class LookingBounds {
             Check.due("one that is left", ring.channel(7, 7), 1);
         });
         Sentences.holds(promise, "INVALID_ARGUMENT if an argument is out of range", () -> {
-            Twins.dueWithin(0, 7, "channel with what", Rings.RICH, (ring, what) -> ring.channel(0, what));
+            Twins.refused("channel(0, 8)", Rings.NEW, ring -> ring.channel(0, 8), Rings.INVALID);
             Twins.refused("channel(8, 5) without readings", Rings.NEW, ring -> ring.channel(8, 5), Rings.INVALID);
             Twins.refused("channel(-1, 6) without readings", Rings.NEW, ring -> ring.channel(-1, 6), Rings.INVALID);
             Twins.refused("channel(8, 8)", Rings.FULL_TO_THE_BRIM, ring -> ring.channel(8, 8), Rings.INVALID);
@@ -166,8 +183,9 @@ final class LookingBounds {
             Check.due("settle slots of the last", ring.entry(1, 1), 1);
             Check.due("place of the 16th", Rings.FULL_TO_THE_BRIM.get().entry(15, 0), 5);
         });
+        Sentences.holds(promise, "`what`: 0 its place, 1 its settle slots", () ->
+                Twins.dueWithin(0, 1, "entry(0, what)", Rings.RICH, (ring, what) -> ring.entry(0, what)));
         Sentences.holds(promise, "INVALID_ARGUMENT if entry is negative or what is out of range", () -> {
-            Twins.dueWithin(0, 1, "entry(0, what)", Rings.RICH, (ring, what) -> ring.entry(0, what));
             Twins.refused("entry(-1, 0)", Rings.RICH, ring -> ring.entry(-1, 0), Rings.INVALID);
             Twins.refused("entry(-1, 0) of an empty list", Rings.NEW, ring -> ring.entry(-1, 0), Rings.INVALID);
             Twins.refused("entry(MIN, 1)", Rings.RICH, ring -> ring.entry(Integer.MIN_VALUE, 1), Rings.INVALID);
@@ -176,6 +194,8 @@ final class LookingBounds {
         });
         Sentences.holds(promise, "NONE if there are not so many", () -> {
             Check.due("the first of none", new ScanRing().entry(0, 0), Rings.NONE);
+            Check.due("the first of one", Rings.withPlaces(9).entry(0, 0), 9);
+            Check.due("the second of one", Rings.withPlaces(9).entry(1, 0), Rings.NONE);
             Check.due("the last of five", Rings.RICH.get().entry(4, 0), 9);
             Check.due("the sixth of five", Rings.RICH.get().entry(5, 0), Rings.NONE);
             Check.due("the sixth of five, its settle slots", Rings.RICH.get().entry(5, 1), Rings.NONE);
@@ -231,6 +251,9 @@ final class LookingBounds {
             Twins.refused("sample(32, -1)", Rings.RICH, ring -> ring.sample(32, -1), Rings.INVALID);
         });
         Sentences.holds(promise, "NONE if there are not so many", () -> {
+            Check.due("the first of one", withReadings(1).sample(0, 2), 0);
+            Check.due("the 32nd of 32", withReadings(32).sample(31, 2), 0);
+            Check.due("the 32nd of 33", withReadings(33).sample(31, 2), 1);
             for (int what = 0; what < 5; what++) {
                 Check.due("the first of none", new ScanRing().sample(0, what), Rings.NONE);
                 Check.due("the second of one", withReadings(1).sample(1, what), Rings.NONE);

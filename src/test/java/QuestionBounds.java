@@ -81,10 +81,14 @@ final class QuestionBounds {
             ScanRing ring = withCarry();
             Check.dueInOrder("would", what -> ring.would(1, what), 1786, 1536, 786);
         });
-        Sentences.holds(promise, "Returns the number; INVALID_ARGUMENT if there is no such entry or what is out of range", () -> {
-            Twins.refused("would of an empty list", Rings.NEW, ring -> ring.would(0, 0), Rings.INVALID);
+        Sentences.holds(promise, "`entry`: an entry", () -> {
             Twins.dueWithin(0, 4, "would of five", Rings.RICH, (ring, entry) -> ring.would(entry, 0));
             Twins.dueWithin(0, 15, "would of 16", Rings.FULL_TO_THE_BRIM, (ring, entry) -> ring.would(entry, 2));
+        });
+        Sentences.holds(promise, "INVALID_ARGUMENT if there is no such entry or what is out of range", () -> {
+            Twins.refused("would of an empty list", Rings.NEW, ring -> ring.would(0, 0), Rings.INVALID);
+            Twins.refused("would with what 3", Rings.RICH, ring -> ring.would(0, 3), Rings.INVALID);
+            Twins.refused("would of entry 5 of five", Rings.RICH, ring -> ring.would(5, 0), Rings.INVALID);
             Twins.refused("both of them wrong", Rings.RICH, ring -> ring.would(5, 3), Rings.INVALID);
         });
         Sentences.holds(promise, "Returns what an entry would have in a scan that was made now.", () -> {
@@ -179,10 +183,13 @@ final class QuestionBounds {
             // 2.3125 and 1: 3 with the offset, 2 without.
             Check.due("an offset that does not", ring.why(0), 4);
         });
-        Sentences.holds(promise, "INVALID_ARGUMENT if there is no such entry", () -> {
-            Twins.refused("why of an empty list", Rings.NEW, ring -> ring.why(0), Rings.INVALID);
+        Sentences.holds(promise, "`entry`: an entry", () -> {
             Twins.dueWithin(0, 4, "why of five", Rings.RICH, ScanRing::why);
             Twins.dueWithin(0, 15, "why of 16", Rings.FULL_TO_THE_BRIM, ScanRing::why);
+        });
+        Sentences.holds(promise, "INVALID_ARGUMENT if there is no such entry", () -> {
+            Twins.refused("why of an empty list", Rings.NEW, ring -> ring.why(0), Rings.INVALID);
+            Twins.refused("why of entry 16 of 16", Rings.FULL_TO_THE_BRIM, ring -> ring.why(16), Rings.INVALID);
         });
     }
 
@@ -193,7 +200,8 @@ final class QuestionBounds {
             Twins.dueWithin(0, 15, "settleFor of 16", Rings.FULL_TO_THE_BRIM, (ring, entry) -> ring.settleFor(entry, 4095));
         });
         Sentences.holds(promise, "`limit`: 0 to 4095", () -> {
-            Twins.dueWithin(0, 4095, "settleFor with limit", () -> Rings.withPlaces(8), (ring, limit) -> ring.settleFor(0, limit));
+            Twins.dueWithin(0, 4095, "settleFor with limit", () -> Rings.withPlaces(8),
+                    (ring, limit) -> ring.settleFor(0, limit));
             ScanRing most = Rings.withPlaces(0);
             most.setSource(0, 0, 4095, 0, 0);
             Check.due("limit 0", most.settleFor(0, 0), 0);
@@ -301,7 +309,7 @@ final class QuestionBounds {
         places.setSource(1, 0, 1000, 0, 0);
         places.setResistance(0, 9);
         Check.due("0, 2 and 3", places.bestRule(), 0);
-        // 2048 are held: channel 2 without resistance has to be first, and is so by resistances, values and the opposite order.
+        // 2048 are held: channel 2, without resistance, has to be first, and is so by the rules 1, 2 and 3.
         ScanRing held = Rings.withPlaces(9);
         held.scan(1);
         held.removeEntry(0);

@@ -110,10 +110,11 @@ final class Rings {
         return ring.load();
     }
 
-    /** Lets the time pass until it is the one given. */
+    /** Lets the time pass until it is the one given, or until a call is refused. */
     static void passTo(ScanRing ring, int time) {
-        while (ring.count(0) < time) {
-            ring.pass(Math.min(1000, time - ring.count(0)));
+        int left = time - ring.count(0);
+        while (left > 0 && ring.pass(Math.min(1000, left)) > 0) {
+            left -= 1000;
         }
     }
 }

@@ -6,7 +6,8 @@ final class TermBounds {
     }
 
     static void run() {
-        Sentences.holds("Terms", "\"/\" of whole numbers is the division rounded down (also for numbers below 0).", TermBounds::division);
+        Sentences.holds("Terms", "\"/\" of whole numbers is the division rounded down (also for numbers below 0).",
+                TermBounds::division);
         sources();
         charge();
         readings();
@@ -70,8 +71,10 @@ final class TermBounds {
                 boolean there = channel >= 0 && channel < 8;
                 Check.due("kind of " + channel, new ScanRing().channel(channel, 0), there ? 0 : Rings.INVALID);
                 Check.due("value of " + channel, new ScanRing().value(channel, 0), there ? 0 : Rings.INVALID);
-                Check.due("setSource of " + channel, new ScanRing().setSource(channel, 0, 1, 0, 0), there ? 0 : Rings.INVALID);
-                Check.due("setResistance of " + channel, new ScanRing().setResistance(channel, 1), there ? 0 : Rings.INVALID);
+                Check.due("setSource of " + channel, new ScanRing().setSource(channel, 0, 1, 0, 0),
+                        there ? 0 : Rings.INVALID);
+                Check.due("setResistance of " + channel, new ScanRing().setResistance(channel, 1),
+                        there ? 0 : Rings.INVALID);
             }
         });
         Sentences.holds(part, "The time is told in slots, 0 at first, and at most 9999.", () -> {
@@ -84,7 +87,14 @@ final class TermBounds {
             Check.due("no pass then", ring.pass(1), Rings.FULL);
             Check.due("still the same", ring.count(0), 9999);
         });
-        Sentences.holds(part, "(a value that would be less becomes 0, one that would be greater 4095)", TermBounds::valuesAtTheirEnds);
+        Sentences.holds(part, "always from 0 to 4095 (a value that would be less becomes 0, one that would be greater 4095)",
+                TermBounds::valuesAtTheirEnds);
+        Sentences.holds(part, "At first all channels are constant with the level 0.", () -> {
+            for (int channel = 0; channel < 8; channel++) {
+                int one = channel;
+                Check.dueInOrder("channel " + channel, what -> new ScanRing().channel(one, what), 0, 0, 0, 0);
+            }
+        });
         Sentences.holds(part, "0, constant: the value is its level;", () -> {
             ScanRing ring = new ScanRing();
             ring.setSource(0, 0, 4095, 0, 0);
@@ -101,7 +111,8 @@ final class TermBounds {
             Check.due("slope 1 at 9999", rising(0, 1).value(0, 9999), 624);
             Check.due("slope -1 at 9999", rising(4095, -1).value(0, 9999), 3470);
         });
-        Sentences.holds(part, "less than half of its period (period / 2), otherwise its other level.", () -> {
+        Sentences.holds(part, "2, jumping: the value is its level in the slots t with (t modulo its period) "
+                + "less than half of its period (period / 2), otherwise its other level.", () -> {
             int[] periods = {2, 3, 4, 5, 199, 200};
             for (int period : periods) {
                 ScanRing ring = jumping(4095, 0, period);
@@ -116,9 +127,10 @@ final class TermBounds {
             Check.due("period 2 at 9999", jumping(1, 2, 2).value(0, 9999), 2);
         });
         Sentences.holds(part, "A level is 0 to 4095, a slope -64 to 64, a period 2 to 200.", () -> {
-            int[][] arguments = {{0, 0, 0, 0}, {0, 4095, 0, 0}, {1, 0, -64, 0}, {1, 4095, 64, 0}, {2, 0, 4095, 2}, {2, 4095, 0, 200}};
-            int[][] beyond = {{0, -1, 0, 0}, {0, 4096, 0, 0}, {1, 0, -65, 0}, {1, 4095, 65, 0}, {2, 0, 4096, 2}, {2, 4095, -1, 200},
-                {2, 0, 0, 1}, {2, 0, 0, 201}};
+            int[][] arguments = {{0, 0, 0, 0}, {0, 4095, 0, 0}, {1, 0, -64, 0}, {1, 4095, 64, 0}, {2, 0, 4095, 2},
+                {2, 4095, 0, 200}};
+            int[][] beyond = {{0, -1, 0, 0}, {0, 4096, 0, 0}, {1, 0, -65, 0}, {1, 4095, 65, 0}, {2, 0, 4096, 2},
+                {2, 4095, -1, 200}, {2, 0, 0, 1}, {2, 0, 0, 201}};
             for (int[] a : arguments) {
                 ScanRing ring = new ScanRing();
                 Check.due("setSource", ring.setSource(3, a[0], a[1], a[2], a[3]), 0);
@@ -181,7 +193,8 @@ final class TermBounds {
             // 2048, 1024.5 and 512.75.
             dueCharges(down, 524288, 262272, 131264);
         });
-        Sentences.holds(part, "In a slot on the ground h becomes 0.0f, in one on the reference the reference level as a float.", () -> {
+        Sentences.holds(part, "In a slot on the ground h becomes 0.0f, "
+                + "in one on the reference the reference level as a float.", () -> {
             ScanRing ring = new ScanRing();
             int[] levels = {4095, 0, 1};
             for (int level : levels) {

@@ -114,7 +114,8 @@ final class TextBounds {
     }
 
     private static void nothingChanges() {
-        String[] texts = {";", "0=1;1=2;1r3;g:3;2=1,2/1;", "g:0;".repeat(17), "0=1;".repeat(34) + "0r31", SPACES.substring(1) + "0"};
+        String[] texts = {";", "0=1;1=2;1r3;g:3;2=1,2/1;", "g:0;".repeat(17), "0=1;".repeat(34) + "0r31",
+            SPACES.substring(1) + "0"};
         for (String text : texts) {
             Supplier<ScanRing> start = () -> {
                 ScanRing ring = Rings.YOUNG.get();
@@ -159,6 +160,7 @@ final class TextBounds {
             Check.holds("list: " + Rings.list(list), Rings.list(list).equals("00 77 80 87 90 97"));
         });
         Sentences.holds("Text", "CHANNEL \"=\" LEVEL a constant source", () -> {
+            loads("0=4095;7=0;", 2);
             fails("8=0;", 0);
             fails("9=0;", 0);
             fails("10=0;", 0);
@@ -167,7 +169,9 @@ final class TextBounds {
             fails("0=10000;", 2);
             fails("0=-1;", 2);
         });
-        Sentences.holds("Text", "a rising one; SLOPE is 0 to 64", () -> {
+        Sentences.holds("Text", "CHANNEL \"=\" LEVEL \"+\" SLOPE or CHANNEL \"=\" LEVEL \"-\" SLOPE "
+                + "a rising one; SLOPE is 0 to 64", () -> {
+            loads("0=4095+0;7=0-0;0=0-64;7=4095+64;", 4);
             fails("0=0+65;", 4);
             fails("0=0-65;", 4);
             fails("0=0+100;", 4);
@@ -177,6 +181,7 @@ final class TextBounds {
             fails("0=0+-1;", 4);
         });
         Sentences.holds("Text", "CHANNEL \"=\" LEVEL \",\" LEVEL \"/\" PERIOD a jumping one", () -> {
+            loads("0=4095,0/2;7=0,4095/200;", 2);
             fails("0=0,4096/2;", 4);
             fails("0=4096,0/2;", 2);
             fails("0=0,0/1;", 6);
@@ -186,11 +191,16 @@ final class TextBounds {
             fails("8=0,0/2;", 0);
         });
         Sentences.holds("Text", "CHANNEL \"r\" RESISTANCE the resistance", () -> {
+            loads("0r31;7r0;", 2);
             fails("0r32;", 2);
             fails("0r100;", 2);
             fails("8r0;", 0);
         });
-        Sentences.holds("Text", "PLACE being a channel, \"g\" for the ground or \"f\" for the reference", () -> {
+        Sentences.holds("Text", "PLACE \":\" SETTLE an entry behind the scan list, "
+                + "PLACE being a channel, \"g\" for the ground or \"f\" for the reference", () -> {
+            ScanRing ring = Rings.withPlaces(3);
+            Check.due("entries", Rings.load(ring, "0:7;7:0;g:7;g:0;f:7;f:0;"), 6);
+            Check.holds("behind the list: " + Rings.list(ring), Rings.list(ring).equals("30 07 70 87 80 97 90"));
             fails("0:8;", 2);
             fails("g:8;", 2);
             fails("f:10;", 2);
@@ -292,8 +302,8 @@ final class TextBounds {
         StringBuilder spaced = new StringBuilder().append(sign).append(sign);
         for (int index = 0; index < text.length(); index++) {
             spaced.append(text.charAt(index));
-            boolean inNumber = index + 1 < text.length() && Character.isDigit(text.charAt(index)) && Character.isDigit(text.charAt(index + 1));
-            if (!inNumber) {
+            boolean isLast = index + 1 == text.length();
+            if (isLast || !Character.isDigit(text.charAt(index)) || !Character.isDigit(text.charAt(index + 1))) {
                 spaced.append(sign).append(sign);
             }
         }
@@ -302,18 +312,19 @@ final class TextBounds {
 
     private static void positions() {
         Sentences.holds("Text", "the first character that is not allowed where it stands", TextBounds::charactersNotAllowed);
-        Sentences.holds("Text", "for a number (CHANNEL, too) that is out of its range or has a 0 ahead, its first digit, whatever follows",
-                TextBounds::firstDigits);
+        Sentences.holds("Text", "for a number (CHANNEL, too) that is out of its range or has a 0 ahead, "
+                + "its first digit, whatever follows", TextBounds::firstDigits);
         Sentences.holds("Text", "for an entry that would be the 17th one, its \":\"", TextBounds::seventeenth);
-        Sentences.holds("Text", "If the text ends where something is missing, it is the length of the text.", TextBounds::shortTexts);
+        Sentences.holds("Text", "If the text ends where something is missing, it is the length of the text.",
+                TextBounds::shortTexts);
     }
 
     private static void charactersNotAllowed() {
         fails("#", 0);
         fails("#0=1;", 0);
         fails("  #", 2);
-        String[] texts = {"0", "0=", "0=1", "0=1+", "0=1+2", "0=1-", "0=1-2", "0=1,", "0=1,2", "0=1,2/", "0=1,2/3", "0r", "0r1",
-            "0:", "0:1", "g", "g:", "g:1", "0=1;"};
+        String[] texts = {"0", "0=", "0=1", "0=1+", "0=1+2", "0=1-", "0=1-2", "0=1,", "0=1,2", "0=1,2/", "0=1,2/3",
+            "0r", "0r1", "0:", "0:1", "g", "g:", "g:1", "0=1;"};
         for (String text : texts) {
             fails(text + "#", text.length());
             fails(text + "#0=1;", text.length());

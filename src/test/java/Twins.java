@@ -79,8 +79,10 @@ final class Twins {
             lines.add("undo of " + states + looks(undone));
         }
         lines.add("undo, log" + log(undone(start, 1)));
-        ScanRing undone = undone(start, 1);
-        lines.add("undo, restore " + undone.restore(0) + looks(undone));
+        for (int place = 0; place < 2; place++) {
+            ScanRing undone = undone(start, 1);
+            lines.add("undo, restore " + undone.restore(place) + looks(undone));
+        }
         return lines;
     }
 

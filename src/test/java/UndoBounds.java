@@ -1,12 +1,52 @@
-import java.util.LinkedHashMap;
-import java.util.Map;
+import java.util.List;
 import java.util.function.Supplier;
 import java.util.function.ToIntFunction;
 
 /** The terms "Undo" and "Errors" and what the document says of an object's use, sentence by sentence. */
 final class UndoBounds {
-    private static final Map<String, ToIntFunction<ScanRing>> ACTIONS = actions();
-    private static final Map<String, ToIntFunction<ScanRing>> OTHERS = others();
+    /** Each action but load(), with arguments that a rich ring takes. */
+    private static final List<Asked> ACTIONS = List.of(
+            new Asked(2, "setSource", ring -> ring.setSource(0, 2, 5, 6, 7)),
+            new Asked(3, "setResistance", ring -> ring.setResistance(0, 4)),
+            new Asked(4, "set", ring -> ring.set(0, 3)),
+            new Asked(5, "addEntry", ring -> ring.addEntry(9, 2, 1)),
+            new Asked(6, "removeEntry", ring -> ring.removeEntry(0)),
+            new Asked(7, "setSettle", ring -> ring.setSettle(0, 7)),
+            new Asked(8, "order", ring -> ring.order(3)),
+            new Asked(9, "scan", ring -> ring.scan(2)),
+            new Asked(10, "pass", ring -> ring.pass(3)),
+            new Asked(11, "take(0)", ring -> ring.take(0)),
+            new Asked(11, "take(1)", ring -> ring.take(1)),
+            new Asked(12, "restore(0)", ring -> ring.restore(0)),
+            new Asked(12, "restore(1)", ring -> ring.restore(1)));
+    private static final List<Asked> OTHERS = List.of(
+            new Asked(17, "count", ring -> ring.count(0)),
+            new Asked(18, "channel", ring -> ring.channel(0, 6)),
+            new Asked(19, "entry", ring -> ring.entry(0, 0)),
+            new Asked(20, "value", ring -> ring.value(1, 9999)),
+            new Asked(21, "sample", ring -> ring.sample(31, 4)),
+            new Asked(22, "account", ring -> ring.account(6)),
+            new Asked(23, "held", ring -> ring.held(2)),
+            new Asked(24, "would", ring -> ring.would(2, 1)),
+            new Asked(25, "why", ring -> ring.why(2)),
+            new Asked(26, "settleFor", ring -> ring.settleFor(2, 5)),
+            new Asked(27, "bestRule", ScanRing::bestRule),
+            new Asked(28, "groundsNeeded", ScanRing::groundsNeeded));
+    private static final String OF_ACTIONS =
+            "Every successful call of a method that is called an action records the state before it";
+    /** A ring with two readings in its log and one state in its history. */
+    private static final Supplier<ScanRing> TWO_READINGS = () -> {
+        ScanRing ring = new ScanRing();
+        Rings.load(ring, "0:0;f:0;0=3000;0r1;");
+        ring.scan(1);
+        ring.scan(1);
+        ring.undo();
+        return ring;
+    };
+
+    /** A call and the promise that tells of it. */
+    private record Asked(int promise, String name, ToIntFunction<ScanRing> call) {
+    }
 
     private UndoBounds() {
     }
@@ -16,40 +56,6 @@ final class UndoBounds {
         errors();
         precedence();
         use();
-    }
-
-    /** Each action, with arguments that a rich ring takes. */
-    private static Map<String, ToIntFunction<ScanRing>> actions() {
-        Map<String, ToIntFunction<ScanRing>> actions = new LinkedHashMap<>();
-        actions.put("setSource", ring -> ring.setSource(0, 2, 5, 6, 7));
-        actions.put("setResistance", ring -> ring.setResistance(0, 4));
-        actions.put("set", ring -> ring.set(0, 3));
-        actions.put("addEntry", ring -> ring.addEntry(9, 2, 1));
-        actions.put("removeEntry", ring -> ring.removeEntry(0));
-        actions.put("setSettle", ring -> ring.setSettle(0, 7));
-        actions.put("order", ring -> ring.order(3));
-        actions.put("scan", ring -> ring.scan(2));
-        actions.put("pass", ring -> ring.pass(3));
-        actions.put("take", ring -> ring.take(0));
-        actions.put("restore", ring -> ring.restore(1));
-        return actions;
-    }
-
-    private static Map<String, ToIntFunction<ScanRing>> others() {
-        Map<String, ToIntFunction<ScanRing>> others = new LinkedHashMap<>();
-        others.put("count", ring -> ring.count(0));
-        others.put("channel", ring -> ring.channel(0, 6));
-        others.put("entry", ring -> ring.entry(0, 0));
-        others.put("value", ring -> ring.value(1, 9999));
-        others.put("sample", ring -> ring.sample(31, 4));
-        others.put("account", ring -> ring.account(6));
-        others.put("held", ring -> ring.held(2));
-        others.put("would", ring -> ring.would(2, 1));
-        others.put("why", ring -> ring.why(2));
-        others.put("settleFor", ring -> ring.settleFor(2, 5));
-        others.put("bestRule", ScanRing::bestRule);
-        others.put("groundsNeeded", ScanRing::groundsNeeded);
-        return others;
     }
 
     private static void undo() {
@@ -79,7 +85,7 @@ final class UndoBounds {
                 Check.due("time then", ring.count(0), Math.max(0, actions - 5));
             }
         });
-        Sentences.holds(part, "Every successful call of a method that is called an action records the state before it", UndoBounds::actionsRecord);
+        actionsRecord();
         Sentences.holds(part, "undo() removes the latest state from the history and restores it.", UndoBounds::undoRestores);
         Sentences.holds(part, "a state is everything but the text and the history", () -> {
             ScanRing ring = Rings.YOUNG.get();
@@ -97,51 +103,55 @@ final class UndoBounds {
     }
 
     private static void actionsRecord() {
-        for (Map.Entry<String, ToIntFunction<ScanRing>> action : ACTIONS.entrySet()) {
-            ScanRing ring = Rings.YOUNG.get();
-            Check.holds(action.getKey() + " is successful", action.getValue().applyAsInt(ring) >= 0);
-            Check.due("states behind " + action.getKey(), ring.count(8), 4);
-            action.getValue().applyAsInt(ring);
-            Check.due("states behind two of " + action.getKey(), ring.count(8), 5);
+        for (Asked action : ACTIONS) {
+            String sentence = action.promise == 9 ? "This is one action." : "This is an action.";
+            Sentences.holds("Promise " + action.promise, sentence, () -> isAction(action));
         }
-        ScanRing loading = Rings.YOUNG.get();
-        loading.load();
-        Check.due("states behind load", loading.count(8), 4);
-        for (Map.Entry<String, ToIntFunction<ScanRing>> other : OTHERS.entrySet()) {
-            Twins.changesNothing(other.getKey(), Rings.YOUNG, other.getValue());
-        }
-        ScanRing text = Rings.YOUNG.get();
-        text.append('0');
-        text.clearText();
-        Check.due("states behind append and clearText", text.count(8), 3);
-        Check.due("undo is no action", text.undo(), 2);
-        // Actions that leave everything as it was.
-        ScanRing same = new ScanRing();
-        same.setSource(0, 0, 0, 0, 0);
-        same.setResistance(0, 0);
-        same.set(1, 1000);
-        same.order(0);
-        same.load();
-        Check.due("states behind actions without effect", same.count(8), 5);
+        Sentences.holds("Promise 16", "This is one action, also without items.", () -> {
+            isAction(new Asked(16, "load", ScanRing::load));
+            isAction(new Asked(16, "load without items", ring -> ring.clearText() + ring.load()));
+        });
+        Sentences.holds("Undo", OF_ACTIONS, () -> {
+            for (Asked other : OTHERS) {
+                Twins.changesNothing(other.name, Rings.YOUNG, other.call);
+            }
+            ScanRing text = Rings.YOUNG.get();
+            text.append('0');
+            text.clearText();
+            Check.due("states behind append and clearText", text.count(8), 3);
+            Check.due("undo is no action", text.undo(), 2);
+        });
+        Sentences.holds("Undo", OF_ACTIONS, () -> {
+            ScanRing same = new ScanRing();
+            same.setSource(0, 0, 0, 0, 0);
+            same.setResistance(0, 0);
+            same.set(1, 1000);
+            same.order(0);
+            same.load();
+            Check.due("states behind actions without effect", same.count(8), 5);
+        });
+    }
+
+    /** Three states are kept in a young ring. */
+    private static void isAction(Asked action) {
+        ScanRing ring = Rings.YOUNG.get();
+        Check.holds(action.name + " is successful", action.call.applyAsInt(ring) >= 0);
+        Check.due("states behind " + action.name, ring.count(8), 4);
+        action.call.applyAsInt(ring);
+        Check.due("states behind two of " + action.name, ring.count(8), 5);
+        action.call.applyAsInt(ring);
+        Check.due("states behind three of " + action.name, ring.count(8), 5);
     }
 
     private static void undoRestores() {
-        for (Map.Entry<String, ToIntFunction<ScanRing>> action : ACTIONS.entrySet()) {
-            Twins.alike("undo of " + action.getKey() + " restores all", Rings.YOUNG, () -> {
-                ScanRing ring = Rings.YOUNG.get();
-                action.getValue().applyAsInt(ring);
-                ring.undo();
-                return ring;
-            });
-            Twins.alike("undo of two of " + action.getKey() + " restores all", Rings.YOUNG, () -> {
-                ScanRing ring = Rings.YOUNG.get();
-                action.getValue().applyAsInt(ring);
-                action.getValue().applyAsInt(ring);
-                ring.undo();
-                ring.undo();
-                return ring;
-            });
+        for (Asked action : ACTIONS) {
+            for (int times = 1; times <= 2; times++) {
+                dueRestored(action, times, Rings.YOUNG);
+            }
         }
+        dueRestored(new Asked(9, "a scan of a log that is not full", ring -> ring.scan(1)), 1, TWO_READINGS);
+        dueRestored(new Asked(11, "a first snapshot", ring -> ring.take(0)), 1, TWO_READINGS);
+        dueRestored(new Asked(11, "a first snapshot in the other place", ring -> ring.take(1)), 1, TWO_READINGS);
         Supplier<ScanRing> withoutText = () -> {
             ScanRing ring = Rings.YOUNG.get();
             ring.clearText();
@@ -157,6 +167,19 @@ final class UndoBounds {
             ScanRing ring = new ScanRing();
             ring.setSource(7, 1, 4095, -64, 0);
             ring.undo();
+            return ring;
+        });
+    }
+
+    private static void dueRestored(Asked action, int times, Supplier<ScanRing> start) {
+        Twins.alike("undo of " + times + " of " + action.name + " restores all", start, () -> {
+            ScanRing ring = start.get();
+            for (int time = 0; time < times; time++) {
+                action.call.applyAsInt(ring);
+            }
+            for (int time = 0; time < times; time++) {
+                ring.undo();
+            }
             return ring;
         });
     }
