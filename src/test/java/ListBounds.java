@@ -304,6 +304,22 @@ final class ListBounds {
             Check.due("the log's last one is the ground behind it", ring.sample(31, 0), 8);
             Check.due("not in the log any more", ring.channel(0, 6), 200);
         });
+        Sentences.holds(part, "The ground reading is the latest reading of an entry with the place 8, "
+                + "the reference reading that of one with the place 9", () -> {
+            ScanRing ring = Rings.withPlaces(0, 8, 9);
+            ring.setSource(0, 0, 1024, 0, 0);
+            int[] offsets = {0, 24, 100};
+            for (int offset : offsets) {
+                ring.set(2, offset);
+                ring.scan(15);
+                Check.due("all of them with the offset " + offset, ring.channel(0, 6), 1024);
+            }
+            // y stays 1124, while a becomes 0 and b 2048.
+            ring.set(2, 0);
+            ring.removeEntry(0);
+            ring.scan(1);
+            Check.due("a later ground and a later reference", ring.channel(0, 6), 1124);
+        });
         Sentences.holds(part, "(The reference level counts as it is now.)", () -> {
             ScanRing ring = Rings.withPlaces(0, 8, 9);
             ring.setSource(0, 0, 1024, 0, 0);
@@ -345,6 +361,11 @@ final class ListBounds {
                 Check.due("readings, beyond those of the log", ring.account(4), 2 * scans);
                 Check.due("carries", ring.account(5), 1024 * scans);
             }
+            ScanRing below = Rings.withCarryBelowZero();
+            int before = below.account(5);
+            below.scan(1);
+            Check.due("a carry of -1 in the log", below.sample(0, 3), -1);
+            Check.due("is 1 in the account", below.account(5), before + 1);
         });
         Sentences.holds(part, "The time is always the accounts 0 to 3 together.", () -> {
             ScanRing ring = Rings.withPlaces(0, 8, 9);

@@ -161,6 +161,8 @@ final class LookingBounds {
             Check.due("still no corrected one", ring.channel(3, 6), Rings.NONE);
             Check.due("none of another", ring.channel(4, 5), Rings.NONE);
             Check.due("of a ground alone", scanned(8).channel(0, 5), Rings.NONE);
+            Check.due("corrected by a ground and a reference alone", scanned(8, 9).channel(0, 6), Rings.NONE);
+            Check.due("corrected of all three", scanned(8, 9, 0).channel(0, 6), 0);
             Twins.changesNothing("channel(3, 5)", Rings.NEW, one -> one.channel(3, 5));
         });
     }

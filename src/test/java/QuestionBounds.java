@@ -152,6 +152,14 @@ final class QuestionBounds {
             ring.set(2, 1);
             Check.due("why with an offset, too", ring.why(1), 1);
         });
+        Sentences.holds(promise, "2 if it would be less than 0", () -> {
+            ScanRing ring = Rings.withCarryBelowZero();
+            Check.dueInOrder("would", what -> ring.would(0, what), 797, -1, -2103);
+            Check.due("why with a carry below 0", ring.why(0), 2);
+            ring.addEntry(8, 0, 0);
+            Check.due("reading without it", ring.would(1, 0), 798);
+            Check.due("why without it", ring.why(1), 4);
+        });
         Sentences.holds(promise, "otherwise 3 if the reading with gain 1000 and offset 0 would have no error", () -> {
             ScanRing ring = new ScanRing();
             ring.setSource(0, 0, 1000, 0, 0);
@@ -291,6 +299,12 @@ final class QuestionBounds {
             ring.order(3);
             Check.due("carry then", ring.would(1, 1), 1);
             Check.due("nothing is less", ring.bestRule(), -1);
+            // A carry of -1, and none behind the ground: by resistances and in the opposite order.
+            ScanRing below = Rings.withCarryBelowZero();
+            below.addEntry(8, 0, 1);
+            Check.due("0 is less than the 1 of a carry of -1", below.bestRule(), 1);
+            below.order(3);
+            Check.due("-1 is not less than 0", below.bestRule(), -1);
         });
     }
 
@@ -343,6 +357,7 @@ final class QuestionBounds {
             Check.due("a carry of 1", ring.groundsNeeded(), 1);
             ring.addEntry(8, 0, 1);
             Check.due("a ground is there", ring.groundsNeeded(), 0);
+            Check.due("a carry of -1", Rings.withCarryBelowZero().groundsNeeded(), 1);
         });
         Sentences.holds(promise, "a ground without settle slots is put ahead of it (which takes a slot)", () -> {
             ScanRing ring = Rings.withPlaces(9, 0, 1);

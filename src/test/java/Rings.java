@@ -67,6 +67,27 @@ final class Rings {
         return ring;
     }
 
+    /**
+     * A ring with channel 1 as its list, whose carry would be -1: of the reference's 1050 so little is held behind 42
+     * slots at 0 that it changes the next charges by their last bit alone, and the roundings turn it to the other side.
+     */
+    static ScanRing withCarryBelowZero() {
+        ScanRing ring = new ScanRing();
+        ring.set(0, 1050);
+        ring.addEntry(9, 0, 0);
+        ring.scan(1);
+        ring.removeEntry(0);
+        ring.setResistance(0, 2);
+        ring.addEntry(0, 6, 0);
+        ring.scan(6);
+        ring.removeEntry(0);
+        ring.set(1, 900);
+        ring.setSource(1, 0, 2900, 0, 0);
+        ring.setResistance(1, 5);
+        ring.addEntry(1, 1, 0);
+        return ring;
+    }
+
     /** A ring whose list has these places, without settle slots. */
     static ScanRing withPlaces(int... places) {
         ScanRing ring = new ScanRing();

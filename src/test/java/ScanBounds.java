@@ -78,6 +78,7 @@ final class ScanBounds {
         // 1024 of the reference's 2048, each time.
         Check.due("one scan", ring.scan(1), 1024);
         Check.due("20 scans", ring.scan(20), 20480);
+        Check.due("a carry of -1", Rings.withCarryBelowZero().scan(1), 1);
     }
 
     private static void scanToTheEnd() {
@@ -148,7 +149,9 @@ final class ScanBounds {
             }
         });
         Sentences.holds(promise, "Returns the number of entries in it", () -> {
-            Check.due("none", new ScanRing().take(0), 0);
+            ScanRing empty = new ScanRing();
+            Check.due("none", empty.take(0), 0);
+            Check.due("though there is a snapshot", empty.count(6), 1);
             Check.due("one", Rings.withPlaces(9).take(1), 1);
             Check.due("16", Rings.FULL_TO_THE_BRIM.get().take(1), 16);
         });
