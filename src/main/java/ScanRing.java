@@ -85,7 +85,6 @@ public final class ScanRing {
 
     private final State now;
     private final History history;
-    private final Text text;
     private final Converter converter;
     private final Sorter sorter;
     private final Setup draft;
@@ -94,11 +93,10 @@ public final class ScanRing {
     public ScanRing() {
         now = new State();
         history = new History();
-        text = new Text();
         converter = new Converter();
         sorter = new Sorter();
         draft = new Setup();
-        reader = new TextReader(text, draft);
+        reader = new TextReader();
     }
 
     // ---- sources and settings
@@ -248,28 +246,27 @@ public final class ScanRing {
         if (!isWithin(character, 1, TOP_CHARACTER)) {
             return INVALID_ARGUMENT;
         }
-        if (text.length >= MOST_CHARACTERS) {
+        if (reader.text.length >= MOST_CHARACTERS) {
             return CAPACITY_EXCEEDED;
         }
-        text.add(character);
-        return text.length;
+        reader.text.add(character);
+        return reader.text.length;
     }
 
     public int clearText() {
-        int previous = text.length;
-        text.length = 0;
+        int previous = reader.text.length;
+        reader.text.length = 0;
         return previous;
     }
 
     public int load() {
-        draft.copyFrom(now.setup);
-        int items = reader.readItems();
+        int items = reader.readItems(now.setup);
         if (reader.hasFailed()) {
             return TEXT_ERROR - reader.failedAt;
         }
         history.keep(now);
-        now.setup.copyFrom(draft);
-        text.length = 0;
+        now.setup.copyFrom(reader.draft);
+        reader.text.length = 0;
         return items;
     }
 
@@ -286,7 +283,7 @@ public final class ScanRing {
             case 6: return now.snapshotsTaken();
             case 7: return now.setup.slotsOfScan();
             case 8: return history.kept;
-            case 9: return text.length;
+            case 9: return reader.text.length;
             case 10: return now.setup.sourcesOf(CONSTANT);
             case 11: return now.setup.sourcesOf(RISING);
             case 12: return now.setup.sourcesOf(JUMPING);
@@ -805,7 +802,7 @@ public final class ScanRing {
         }
 
         private static float chargeBehind(float charge, float value, int resistance) {
-            return resistance == 0 ? value : charge + (value - charge) / (float) (1 + resistance);
+            return resistance <= 0 ? value : charge + (value - charge) / (float) (1 + resistance);
         }
     }
 
@@ -874,22 +871,18 @@ public final class ScanRing {
         }
     }
 
-    /** Reads the items of a text into a setup, and stops at the first character that is not allowed. */
+    /** Reads the items of its text into a draft, and stops at the first character that is not allowed. */
     private static final class TextReader {
         private static final int TOO_GREAT = 10000;
 
-        private final Text text;
-        private final Setup setup;
+        final Text text = new Text();
+        final Setup draft = new Setup();
         private int position;
         int failedAt;
 
-        TextReader(Text text, Setup setup) {
-            this.text = text;
-            this.setup = setup;
-        }
-
-        /** Returns the number of items, which counts if reading has not failed. */
-        int readItems() {
+        /** Returns the number of items. It counts, as the draft does, if reading has not failed. */
+        int readItems(Setup present) {
+            draft.copyFrom(present);
             position = 0;
             failedAt = -1;
             int items = 0;
@@ -949,7 +942,7 @@ public final class ScanRing {
             }
             expect(';');
             if (!hasFailed()) {
-                setup.putSource(channel, kind, level, second, period);
+                draft.putSource(channel, kind, level, second, period);
             }
         }
 
@@ -957,13 +950,13 @@ public final class ScanRing {
             int resistance = readNumber(0, TOP_RESISTANCE);
             expect(';');
             if (!hasFailed()) {
-                setup.channels.put(channel, RESISTANCE, resistance);
+                draft.channels.put(channel, RESISTANCE, resistance);
             }
         }
 
         private void readEntry(int place) {
             // The ":" itself is not allowed where the list has no room for its entry.
-            if (setup.entries >= MOST_ENTRIES) {
+            if (draft.entries >= MOST_ENTRIES) {
                 next();
                 failAt(position);
             }
@@ -971,7 +964,7 @@ public final class ScanRing {
             int settle = readNumber(0, TOP_SETTLE);
             expect(';');
             if (!hasFailed()) {
-                setup.insert(place, settle, setup.entries);
+                draft.insert(place, settle, draft.entries);
             }
         }
 

